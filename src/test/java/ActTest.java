@@ -166,6 +166,9 @@ public final class ActTest {
         Due.fails(shop, GRID, 1, -1, 12, Due.SIZE);
         Due.fails(shop, GRID, 1, 12, -1, Due.SIZE);
         Due.fails(shop, GRID, 1, 0, LEAST, Due.SIZE);
+        Due.act(shop, GRID, 1, 0, 12, 0);
+        Due.act(shop, LONG, 1, 2, 0, 0);
+        Due.fails(shop, LONG, 1, 3, 0, Due.INDEX);
         Due.act(shop, GRID, 1, 12, 12, 12);
         Due.act(shop, ADD, 1, 11, 11, 1);
         Due.act(shop, ADD, 1, 11, 11, 2);

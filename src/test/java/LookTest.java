@@ -38,6 +38,10 @@ public final class LookTest {
         shop.act(1, 0, 0, 0);
         Due.stand(shop, 0, 0, 0, 0, 0, 0, 0, 0, 0);
         Due.stand(shop, 1, 1, 11, 21, 31, 1, 2, 0, 0);
+        shop.act(2, 1, 0, 0);
+        Due.stand(shop, 1, 1, 11, 0, 31, 0, 2, 0, 0);
+        shop.act(2, 2, 1, 0);
+        Due.stand(shop, 2, 1, 12, 22, 0, 1, 0, 0, 0);
     }
 
     private static void standHanging() {
