@@ -5,14 +5,20 @@ final class Due {
     static final int NOTHING = 1, SIZE = 2, INDEX = 3, STORE = 4, CAST = 5, LATE = 6, BROKEN = 7;
 
     private static int wrong = 0;
+    private static String sentence = "";
 
     private Due() {
+    }
+
+    /** The sentence of the document that the checks behind this call are about; wrong answers are printed with it. */
+    static void sentence(String words) {
+        sentence = words + ": ";
     }
 
     static void is(String call, long got, long want) {
         if (got != want) {
             wrong++;
-            System.out.println(call + " answered " + got + ", due is " + want);
+            System.out.println(sentence + call + " answered " + got + ", due is " + want);
         }
     }
 
