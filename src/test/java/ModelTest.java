@@ -309,11 +309,21 @@ public final class ModelTest {
         return luck == 0 ? below : luck == 1 ? -1 : luck == 2 ? number() : DRAWN.nextInt(below);
     }
 
+    /** Steps that make anew come seldom, so that what was made is used for a while; of FIT every other wheel is a disc. */
+    private static int drawnKind() {
+        int kind = index(17);
+        boolean makesAnew = kind == 0 || kind == 1 || (kind >= 7 && kind <= 9);
+        return makesAnew && DRAWN.nextInt(4) != 0 ? 2 + DRAWN.nextInt(2) * 11 : kind;
+    }
+
     /** A kind, a, b, c and a stead; few numbers for a, so that steps meet. */
     private static int[] drawnStep(int places) {
-        int kind = index(17);
+        int kind = drawnKind();
         int a = DRAWN.nextInt(40) == 0 ? index(4) : DRAWN.nextInt(places);
         int c = kind == 13 && DRAWN.nextInt(40) != 0 ? DRAWN.nextInt(places) : number();
+        if (kind == 2 && DRAWN.nextInt(2) == 0) {
+            c = 100 + DRAWN.nextInt(40);
+        }
         int stead = DRAWN.nextInt(3) == 0 ? -1 : DRAWN.nextInt(20) == 0 ? index(16) : DRAWN.nextInt(8);
         return new int[] {kind, a, number(), c, stead};
     }

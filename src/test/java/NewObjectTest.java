@@ -23,27 +23,47 @@ public final class NewObjectTest {
 
     private static void membersOfTheFace() {
         Set<String> face = new TreeSet<>();
+        Set<String> names = new TreeSet<>();
         Set<String> hidden = new TreeSet<>();
         for (Method method : CycleShop.class.getDeclaredMethods()) {
-            (Modifier.isPrivate(method.getModifiers()) ? hidden : face).add(method.getName());
+            if (Modifier.isPrivate(method.getModifiers())) {
+                hidden.add(method.getName());
+            } else {
+                face.add(method.toString());
+                names.add(method.getName());
+            }
         }
-        Set<String> due = Set.of("act", "step", "clear", "run", "told", "sum", "tally", "stand", "basket", "rack", "grid");
-        Due.is("the face's methods " + face, face.equals(due) ? 1 : 0, 1);
-        hidden.retainAll(face);
+        Due.is("the face's methods " + face, face.equals(dueMethods()) ? 1 : 0, 1);
+        hidden.retainAll(names);
         Due.is("private methods with a public name " + hidden, hidden.size(), 0);
 
         Set<String> constants = new TreeSet<>();
         for (Field field : CycleShop.class.getDeclaredFields()) {
             if (!Modifier.isPrivate(field.getModifiers())) {
-                constants.add(field.getName());
+                constants.add(field.toString());
             }
         }
-        Due.is("the face's constants " + constants, constants.equals(Set.of("NONE", "BAD", "FULL")) ? 1 : 0, 1);
+        Set<String> dueConstants = new TreeSet<>();
+        for (String name : new String[] {"NONE", "BAD", "FULL"}) {
+            dueConstants.add("public static final int CycleShop." + name);
+        }
+        Due.is("the face's constants " + constants, constants.equals(dueConstants) ? 1 : 0, 1);
 
         Constructor<?>[] constructors = CycleShop.class.getDeclaredConstructors();
         Due.is("constructors", constructors.length, 1);
-        Due.is("its parameters", constructors[0].getParameterCount(), 0);
-        Due.is("final", Modifier.isFinal(CycleShop.class.getModifiers()) ? 1 : 0, 1);
+        Due.is("the constructor " + constructors[0], constructors[0].toString().equals("public CycleShop()") ? 1 : 0, 1);
+        Due.is("public and final", CycleShop.class.getModifiers(), Modifier.PUBLIC | Modifier.FINAL);
+    }
+
+    private static Set<String> dueMethods() {
+        Set<String> due = new TreeSet<>();
+        for (String method : new String[] {"long CycleShop.act(int,int,int,int)", "int CycleShop.step(int,int,int,int,int,int)",
+            "int CycleShop.clear(int)", "int CycleShop.run(int,int)", "int CycleShop.told(int)", "long CycleShop.sum()",
+            "int CycleShop.tally(int)", "int CycleShop.stand(int,int)", "int CycleShop.basket(int,int)",
+            "int CycleShop.rack(int,int)", "int CycleShop.grid(int,int,int)"}) {
+            due.add("public " + method);
+        }
+        return due;
     }
 
     private static void allIsNone() {
